@@ -249,7 +249,8 @@ public final class SnowFences {
         needHeight(height);
         Wind blowing = new Wind(wind, strength, supply);
         int best = 0;
-        int fewest = Integer.MAX_VALUE;
+        // More than can be blocked, so the first place is taken in any case.
+        int fewest = MOST_ROADS * SIDE + 1;
         for (int index = 0; index < SIDE; index++) {
             screenAllBut(NOTHING_LEFT_OUT);
             // A fence straight across a wind along the rows goes down a column.
@@ -549,7 +550,6 @@ public final class SnowFences {
             carried = supply;
             shelter = 0;
             sweep = 0;
-            holds = 0;
             for (int i = 0; i < SIDE; i++) {
                 passCell(ground, screens, start + i * nextCell);
             }

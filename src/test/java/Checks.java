@@ -11,12 +11,16 @@ final class Checks {
     private int made = 0;
     private int wrong = 0;
 
-    /** The answer as a text, or throws.Name of the exact class that came. */
+    /**
+     * The answer as a text, or throws.Name of the exact class that came. An exception that the machine or the
+     * library threw, and not a throw of the program, is told as such, so it is never as due.
+     */
     static String answerOf(Call call) {
         try {
             return String.valueOf(call.answer());
         } catch (RuntimeException e) {
-            return "throws." + e.getClass().getSimpleName();
+            String by = e.getStackTrace().length == 0 ? "nobody" : e.getStackTrace()[0].getClassName();
+            return "throws." + e.getClass().getSimpleName() + (by.startsWith("SnowFences") ? "" : " by " + by);
         }
     }
 

@@ -202,6 +202,38 @@ public final class PromisesTest {
         due("9 a gap longer than the shelter", "10 9 9 9 9 9 9 9 9 9 9 10 10 10 10 10 10 10 10 10", () -> row0(wide));
     }
 
+    private static void promise9Lines() {
+        SnowFences east = new SnowFences();
+        east.fall(10);
+        east.blow(2, 3, 1);
+        due("9 from the east", "10 10 10 10 10 10 10 10 10 10 7 7 7 7 7 7 7 7 7 7", () -> row0(east));
+        due("9 from the east, the south-east", 7, () -> east.snow(19, 19));
+        due("9 from the east, the south-west", 10, () -> east.snow(0, 19));
+        SnowFences south = new SnowFences();
+        south.fall(10);
+        south.blow(3, 3, 1);
+        due("9 from the south, row 9", 10, () -> south.snow(0, 9));
+        due("9 from the south, row 10", 7, () -> south.snow(0, 10));
+        due("9 from the south, the south-east", 7, () -> south.snow(19, 19));
+        due("9 from the south, the north-east", 10, () -> south.snow(19, 0));
+
+        SnowFences last = new SnowFences();
+        last.setSupply(40);
+        last.fence(0, 19, 1, false, 9, 0);
+        due("9 no shelter on the next line", 800, () -> last.blow(1, 1, 1));
+        due("9 nor on any", 0, () -> last.count(2));
+        last.fence(0, 0, 1, true, 1, 0);
+        last.take(1);
+        last.take(0);
+        due("9 a fence that was taken shelters none", 800, () -> last.blow(0, 1, 1));
+        SnowFences low = new SnowFences();
+        low.setSupply(40);
+        low.fence(2, 0, 1, false, 2, 0);
+        low.fence(4, 0, 1, false, 1, 0);
+        low.blow(0, 1, 1);
+        due("9 twice 1 is less than 3", "0 0 0 4 4 4 4 0 0 0 0 0 0 0 0 0 0 0 0 0", () -> row0(low));
+    }
+
     private static void promise9Sides() {
         // A fence of 1 at (9, 9) drops 4 on the two cells behind it, on another side for each wind.
         int[][] behind = {{10, 9, 11, 9}, {9, 10, 9, 11}, {8, 9, 7, 9}, {9, 8, 9, 7}};
@@ -290,6 +322,12 @@ public final class PromisesTest {
         }
         x.setLimit(14);
         due("13 as much as the limit", 20, () -> x.told(0, 2));
+        SnowFences first = new SnowFences();
+        first.setSupply(40);
+        first.road(false, 1);
+        first.fence(0, 0, 1, false, 1, 0);
+        first.blow(1, 1, 1);
+        due("13 the most, on the first cell", 4, () -> first.told(0, 4));
         refused("13 road -1", Checks.IOOBE, x, () -> x.told(-1, 0));
         refused("13 road 2", Checks.IOOBE, x, () -> x.told(2, 0));
         refused("13 what -1", Checks.IOOBE, x, () -> x.told(0, -1));
@@ -341,6 +379,10 @@ public final class PromisesTest {
         due("15 the other road", 4, () -> x.would(0, 1, 24, 1));
         due("15 from the east", 0, () -> x.would(2, 1, 24, 0));
         due("15 nothing is changed", 0, () -> x.count(2) + x.count(5) + x.count(7));
+        x.fall(20);
+        due("15 starts from what lies there", 20, () -> x.would(3, 1, 1, 1));
+        x.plough(1);
+        due("15 and from nothing again", 0, () -> x.would(3, 1, 1, 1));
         refused("15 wind -1", Checks.IOOBE, x, () -> x.would(-1, 1, 1, 0));
         refused("15 wind 4", Checks.IOOBE, x, () -> x.would(4, 1, 1, 0));
         refused("15 road -1", Checks.IOOBE, x, () -> x.would(0, 1, 1, -1));
@@ -382,6 +424,11 @@ public final class PromisesTest {
         due("16 48 hours", 48, () -> x.until(0, 1, 0));
         x.setLimit(49);
         due("16 49 are too many", -1, () -> x.until(0, 1, 0));
+        x.change(0, 1, 0);
+        x.take(0);
+        x.fence(0, 0, 1, true, 1, 0);
+        x.setLimit(3);
+        due("16 some cell is one", 3, () -> x.until(0, 1, 0));
     }
 
     private static void promise17Advise() {
@@ -404,6 +451,13 @@ public final class PromisesTest {
         }
         due("17 also with 10 fences", 7, () -> x.advise(2, 1, 1));
         due("17 still 10", 10, () -> x.count(0));
+        SnowFences all = new SnowFences();
+        for (int i = 0; i < 4; i++) {
+            all.road(false, i);
+        }
+        all.setLimit(1);
+        all.fall(30);
+        due("17 all blocked wherever it stands", 0, () -> all.advise(1, 1, 1));
         refused("17 wind -1", Checks.IOOBE, x, () -> x.advise(-1, 1, 1));
         refused("17 wind 4", Checks.IOOBE, x, () -> x.advise(4, 1, 1));
         refused("17 strength 0", Checks.IAE, x, () -> x.advise(0, 0, 1));
@@ -432,6 +486,16 @@ public final class PromisesTest {
         // first and so keep the road free, but it has the greater number and does not count there.
         due("17 it has the greatest number", 2, () -> x.advise(1, 1, 1));
         due("17 but counts if it is higher", 0, () -> x.advise(1, 1, 2));
+
+        SnowFences hours = new SnowFences();
+        hours.setSupply(40);
+        hours.setLimit(16);
+        hours.road(true, 0);
+        hours.road(true, 1);
+        // Behind 4 hours 16 lie behind a fence on column 0, behind 5 they would be 20.
+        due("17 4 hours", 1, () -> hours.advise(0, 1, 2));
+        hours.setLimit(17);
+        due("17 not 5", 0, () -> hours.advise(0, 1, 2));
     }
 
     private static void promise18Harmful() {
@@ -446,13 +510,21 @@ public final class PromisesTest {
         x.fence(5, 5, 5, true, 2, 0);
         due("18 the longest", 2, () -> x.harmful(0, 1));
         due("18 none from the east", -1, () -> x.harmful(2, 1));
+        x.setLimit(17);
+        due("18 5 hours are too many", -1, () -> x.harmful(0, 1));
+        x.setLimit(16);
+        due("18 4 are not", 2, () -> x.harmful(0, 1));
+        x.setLimit(15);
         x.take(2);
         due("18 of two the smaller number", 1, () -> x.harmful(0, 1));
         x.fence(5, 0, 10, true, 2, 0);
         due("18 as few is not fewer", -1, () -> x.harmful(0, 1));
-        x.setLimit(17);
-        due("18 not within 4 hours", -1, () -> x.harmful(0, 1));
         due("18 all stand", 4, () -> x.count(0));
+        SnowFences first = new SnowFences();
+        first.setSupply(40);
+        first.road(true, 7);
+        first.fence(5, 0, 20, true, 2, 0);
+        due("18 the first", 0, () -> first.harmful(0, 1));
         refused("18 wind -1", Checks.IOOBE, x, () -> x.harmful(-1, 1));
         refused("18 wind 4", Checks.IOOBE, x, () -> x.harmful(4, 1));
         refused("18 strength 0", Checks.IAE, x, () -> x.harmful(0, 0));
@@ -505,6 +577,7 @@ public final class PromisesTest {
         promise8Fall();
         promise9BlowByHand();
         promise9Fences();
+        promise9Lines();
         promise9Sides();
         promise10Plough();
         promise11Snow();
