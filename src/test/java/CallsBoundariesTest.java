@@ -315,9 +315,29 @@ public final class CallsBoundariesTest {
         b.due("10 but a crossing", 3800, () -> x.plough(2));
         b.due("10 but another crossing", 3800, () -> x.plough(3));
         counts("10 ploughed in all", "0 4 68400 200 0 0 11600 0 15 0", x);
+        for (int i = 0; i < 20; i++) {
+            ploughBesideOthers(i);
+        }
         SnowFences bare = withRoads(1);
         b.due("10 none lay there", 0, () -> bare.plough(0));
         counts("10 none was ploughed", "0 1 0 0 0 0 0 0 15 0", bare);
+    }
+
+    // No snow lies on it then, and on each other cell as much as before.
+    private static void ploughBesideOthers(int index) {
+        for (int down = 0; down < 2; down++) {
+            SnowFences x = Boundary.deep(7);
+            x.road(down == 1, index);
+            String what = "10 " + (down == 1 ? "column " : "row ") + index;
+            b.due(what, 140, () -> x.plough(0));
+            for (int i = 0; i < 400; i++) {
+                int column = i % 20;
+                int row = i / 20;
+                int lies = (down == 1 ? column : row) == index ? 0 : 7;
+                b.due(what + ", at " + column + " " + row, lies, () -> x.snow(column, row));
+            }
+            told(what + " is told", down + " " + index + " 0 0 0", x, 0);
+        }
     }
 
     // ---- 11: snow
@@ -399,6 +419,13 @@ public final class CallsBoundariesTest {
         told("13 on the last cell alone", "1 19 1 4 4", last, 0);
         last.setLimit(5);
         told("13 the limit is one more", "1 19 0 4 4", last, 0);
+        SnowFences first = new SnowFences();
+        first.road(true, 19);
+        first.setSupply(4);
+        first.setLimit(4);
+        first.fence(18, 0, 1, true, 1, 0);
+        first.blow(0, 1, 1);
+        told("13 on the first cell alone", "1 19 1 4 4", first, 0);
     }
 
     // ---- 14: count
@@ -536,6 +563,7 @@ public final class CallsBoundariesTest {
             adviseOnEachStep(wind);
             adviseTieOfHeight(wind);
             adviseBehindFourHours(wind);
+            adviseLeastHarm(wind);
         }
     }
 
@@ -585,6 +613,15 @@ public final class CallsBoundariesTest {
         b.onlyTells("17 blocked behind 4 hours, wind " + w, a.index(18), a.x, () -> a.x.advise(w, 1, 2));
         a.limit(17);
         b.onlyTells("17 not blocked behind 4 hours, wind " + w, 0, a.x, () -> a.x.advise(w, 1, 2));
+    }
+
+    // The wind clears the road, which lies along it, but for the cell of the fence and those that it shelters: wherever
+    // it stands it does harm, and the least on the last step.
+    private static void adviseLeastHarm(int w) {
+        Along a = new Along(w).fall(1).limit(1);
+        a.x.road(!a.down(), 0);
+        b.onlyTells("17 the least harm, wind " + w, a.index(19), a.x, () -> a.x.advise(w, 9, 1));
+        b.onlyTells("17 none would do no harm, wind " + w, 0, a.x, () -> a.x.would(w, 9, 4, 0));
     }
 
     // ---- 18: harmful
@@ -667,6 +704,51 @@ public final class CallsBoundariesTest {
         b.onlyTells("18 3 cells and 2", 0, x, () -> x.harmful(0, 1));
         x.road(true, 12);
         b.onlyTells("18 3 cells and 2 of two roads", 1, x, () -> x.harmful(0, 1));
+    }
+
+    // ---- 15 to 18: nothing is changed, so what is asked first does not matter
+
+    private static final Boundary.WithNumber[] ASK = {
+        (x, wind) -> x.would(wind, 2, 3, 0),
+        (x, wind) -> x.until(wind, 2, 0),
+        (x, wind) -> x.advise(wind, 2, 3),
+        (x, wind) -> x.harmful(wind, 2),
+        (x, wind) -> x.blow(wind, 2, 3)
+    };
+    private static final Boundary.WithNumber[] DO = {
+        (x, wind) -> null,
+        (x, wind) -> x.take(0),
+        (x, wind) -> x.change(0, 9, 3),
+        (x, wind) -> x.fence(2, 0, 20, true, 9, 0),
+        (x, wind) -> x.road(false, 4),
+        (x, wind) -> x.setLimit(1),
+        (x, wind) -> x.setSupply(40),
+        (x, wind) -> x.fall(30),
+        (x, wind) -> x.plough(0)
+    };
+
+    private static void askedInAnyOrder() {
+        for (int wind = 0; wind < 4; wind++) {
+            for (int ask = 0; ask < 4; ask++) {
+                for (int done = 0; done < DO.length; done++) {
+                    for (int then = 0; then < ASK.length; then++) {
+                        askedBetween(wind, ask, done, then);
+                    }
+                }
+            }
+        }
+    }
+
+    private static void askedBetween(int wind, int ask, int done, int then) {
+        SnowFences plain = Boundary.rich();
+        SnowFences asked = Boundary.rich();
+        ASK[ask].call(asked, wind);
+        String what = "wind " + wind + ": asked " + ask + ", done " + done + ", asked " + then;
+        Object due = DO[done].call(plain, wind);
+        b.due(what + ", done", due, () -> DO[done].call(asked, wind));
+        Object answer = ASK[then].call(plain, wind);
+        b.due(what, answer, () -> ASK[then].call(asked, wind));
+        b.due(what + ", all", Boundary.allTold(plain), () -> Boundary.allTold(asked));
     }
 
     // ---- 19: mean
@@ -758,6 +840,7 @@ public final class CallsBoundariesTest {
         until();
         advise();
         harmful();
+        askedInAnyOrder();
         mean();
         digest();
         b.end();
